@@ -1061,14 +1061,14 @@ public final class NeverStop {
         }
     }
 
-    /** THE TAPE, and how it is read as a TEXT. */
+    /** THE TAPE, and how it is read as a TEXT: first all its TOKENS, then what they say, as a law's code. */
     static final class Reader {
-        // kinds of TOKENS; a sign's kind is its byte
-        private static final int END = 0, WRONG = 1, NUMBER = 2;
-        private static final int QUICK_NAME = 3, ROOM_NAME = 4, DAY_NAME = 5;
-        private static final int LOAD_NAME = 6, SHIP_NAME = 7, WORLD_NAME = 8;
-        private static final int CATCH_KEY = 9, DROP_KEY = 10, CHANGE_KEY = 11;
-        private static final int OR_KEY = 12, AND_KEY = 13, NOT_KEY = 14;
+        // kinds of TOKENS; a sign's kind is its byte, a number's is NUMBER and its value
+        private static final int END = 0, WRONG = 1, NUMBER = 1000;
+        private static final int QUICK_NAME = 2, ROOM_NAME = 3, DAY_NAME = 4;
+        private static final int LOAD_NAME = 5, SHIP_NAME = 6, WORLD_NAME = 7;
+        private static final int CATCH_KEY = 8, DROP_KEY = 9, CHANGE_KEY = 10;
+        private static final int OR_KEY = 11, AND_KEY = 12, NOT_KEY = 13;
         private static final int MOST_OPEN = 5, MOST_DIGITS = 4;
         // what binds how: each rank's parts are of the next one
         private static final int EITHER = 0, BOTH = 1, COMPARISON = 2, SUM = 3, PRODUCT = 4, SINGLE = 5;
@@ -1076,15 +1076,17 @@ public final class NeverStop {
         int size;
         int fault;
         private final int[] tape;
+        private final int[] kinds;
+        private final int[] places;
         private final int[] code;
-        private int length;
         private int at;
         private int kind;
-        private int place;
-        private int value;
+        private int length;
 
         Reader() {
             tape = new int[TAPE];
+            kinds = new int[TAPE + 1];
+            places = new int[TAPE + 1];
             code = new int[TAPE];
         }
 
@@ -1097,10 +1099,11 @@ public final class NeverStop {
 
         /** null, if there is a FAULT, whose place is fault then. */
         Law readLaw() {
-            length = 0;
+            findTokens();
             at = 0;
-            fault = -1;
-            step();
+            kind = kinds[0];
+            length = 0;
+            fault = NONE;
             if (!part(CATCH_KEY)) {
                 return null;
             }
@@ -1117,16 +1120,117 @@ public final class NeverStop {
             return new Law(whole, drop, change);
         }
 
-        private boolean part(int key) {
-            return skipped(key) && rank(EITHER, 0) && skipped(';');
+        // ---- TOKENS
+
+        private void findTokens() {
+            int count = 0;
+            int end = 0;
+            for (int i = 0; i < size && i < TAPE; i++) {
+                if (i >= end && tape[i] != ' ' && tape[i] != '\n') {
+                    end = endOf(i);
+                    kinds[count] = kindOf(i, end);
+                    places[count] = i;
+                    count++;
+                }
+            }
+            kinds[count] = END;
+            places[count] = size;
         }
 
-        private boolean ended() {
-            return kind == END || wrong();
+        private static boolean isLetter(int one) {
+            return one >= 'a' && one <= 'z';
+        }
+
+        private static boolean isDigit(int one) {
+            return one >= '0' && one <= '9';
+        }
+
+        /** The place behind the TOKEN that begins at one. */
+        private int endOf(int from) {
+            boolean letters = isLetter(tape[from]);
+            boolean digits = isDigit(tape[from]);
+            for (int i = from + 1; i < size && i < TAPE; i++) {
+                if (!(letters && isLetter(tape[i])) && !(digits && isDigit(tape[i]))) {
+                    return i;
+                }
+            }
+            return size;
+        }
+
+        private int kindOf(int from, int end) {
+            int one = tape[from];
+            if (isLetter(one)) {
+                return wordKind(from, end);
+            }
+            if (isDigit(one)) {
+                return numberKind(from, end);
+            }
+            switch (one) {
+                case '(': case ')': case ';': case '+': case '-': case '*': case '<': case '=': return one;
+                default: return WRONG;
+            }
+        }
+
+        private int numberKind(int from, int end) {
+            if (end - from > MOST_DIGITS) {
+                return WRONG;
+            }
+            int value = 0;
+            for (int i = from; i < end && i < TAPE; i++) {
+                value = 10 * value + tape[i] - '0';
+            }
+            return NUMBER + value;
+        }
+
+        private int wordKind(int from, int end) {
+            for (int k = QUICK_NAME; k <= NOT_KEY; k++) {
+                if (isWord(wordOf(k), from, end)) {
+                    return k;
+                }
+            }
+            return WRONG;
+        }
+
+        private boolean isWord(String word, int from, int end) {
+            if (word.length() != end - from || end > TAPE) {
+                return false;
+            }
+            for (int i = 0; i < word.length(); i++) {
+                if (word.charAt(i) != tape[from + i]) {
+                    return false;
+                }
+            }
+            return true;
+        }
+
+        private static String wordOf(int k) {
+            switch (k) {
+                case QUICK_NAME: return "quick";
+                case ROOM_NAME: return "room";
+                case DAY_NAME: return "day";
+                case LOAD_NAME: return "load";
+                case SHIP_NAME: return "ship";
+                case WORLD_NAME: return "world";
+                case CATCH_KEY: return "catch";
+                case DROP_KEY: return "drop";
+                case CHANGE_KEY: return "change";
+                case OR_KEY: return "or";
+                case AND_KEY: return "and";
+                default: return "not";
+            }
+        }
+
+        // ---- one TOKEN after the other
+
+        private void step() {
+            if (at < TAPE) {
+                at++;
+            }
+            kind = kinds[at];
         }
 
         private boolean wrong() {
-            fault = place;
+            fault = places[at];
             return false;
         }
 
@@ -1138,6 +1242,10 @@ public final class NeverStop {
             return true;
         }
 
+        private boolean ended() {
+            return kind == END || wrong();
+        }
+
         private void put(int op) {
             if (length < TAPE) {
                 code[length] = op;
@@ -1147,12 +1255,16 @@ public final class NeverStop {
 
         // ---- E and its parts; open: how many ( , not, - are open
 
+        private boolean part(int key) {
+            return skipped(key) && rank(EITHER, 0) && skipped(';');
+        }
+
         /** A row of parts of the next rank with operators of this one between them. */
         private boolean rank(int rank, int open) {
             if (rank == COMPARISON) {
                 return negation(open);
             }
-            if (rank == SINGLE) {
+            if (rank >= SINGLE) {
                 return single(open);
             }
             if (!rank(rank + 1, open)) {
@@ -1184,39 +1296,34 @@ public final class NeverStop {
         }
 
         private boolean negation(int open) {
-            if (kind != NOT_KEY) {
-                return comparison(open);
+            if (kind == NOT_KEY) {
+                if (open >= MOST_OPEN) {
+                    return wrong();
+                }
+                step();
+                if (!negation(open + 1)) {
+                    return false;
+                }
+                put(Law.NOT);
+                return true;
             }
-            if (open >= MOST_OPEN) {
-                return wrong();
-            }
-            step();
-            if (!negation(open + 1)) {
-                return false;
-            }
-            put(Law.NOT);
-            return true;
-        }
-
-        private boolean comparison(int open) {
             if (!rank(SUM, open)) {
                 return false;
             }
             int op = operator(COMPARISON);
-            if (op == NONE) {
-                return true;
+            if (op != NONE) {
+                step();
+                if (!rank(SUM, open)) {
+                    return false;
+                }
+                put(op);
             }
-            step();
-            if (!rank(SUM, open)) {
-                return false;
-            }
-            put(op);
             return true;
         }
 
         private boolean single(int open) {
-            if (kind == NUMBER) {
-                put(value);
+            if (kind >= NUMBER) {
+                put(kind - NUMBER);
                 step();
                 return true;
             }
@@ -1238,100 +1345,6 @@ public final class NeverStop {
             }
             put(Law.MINUS);
             return true;
-        }
-
-        // ---- TOKENS
-
-        private int byteAt(int i) {
-            return i >= 0 && i < size && i < TAPE ? tape[i] : -1;
-        }
-
-        private static boolean isLetter(int one) {
-            return one >= 'a' && one <= 'z';
-        }
-
-        private static boolean isDigit(int one) {
-            return one >= '0' && one <= '9';
-        }
-
-        /** The next TOKEN: its kind, place and, of a NUMBER, its value. */
-        private void step() {
-            for (int i = 0; i < TAPE && (byteAt(at) == ' ' || byteAt(at) == '\n'); i++) {
-                at++;
-            }
-            place = at;
-            int one = byteAt(at);
-            if (one < 0) {
-                kind = END;
-            } else if (isLetter(one)) {
-                word();
-            } else if (isDigit(one)) {
-                number();
-            } else {
-                at++;
-                kind = isSign(one) ? one : WRONG;
-            }
-        }
-
-        private static boolean isSign(int one) {
-            switch (one) {
-                case '(': case ')': case ';': case '+': case '-': case '*': case '<': case '=': return true;
-                default: return false;
-            }
-        }
-
-        private void number() {
-            value = 0;
-            for (int i = 0; i < TAPE && isDigit(byteAt(at)); i++) {
-                // digits behind the fourth make it too long: its value no longer matters
-                if (i < MOST_DIGITS) {
-                    value = 10 * value + byteAt(at) - '0';
-                }
-                at++;
-            }
-            kind = at - place > MOST_DIGITS ? WRONG : NUMBER;
-        }
-
-        private void word() {
-            for (int i = 0; i < TAPE && isLetter(byteAt(at)); i++) {
-                at++;
-            }
-            kind = WRONG;
-            for (int k = QUICK_NAME; k <= NOT_KEY; k++) {
-                if (isWord(wordOf(k))) {
-                    kind = k;
-                }
-            }
-        }
-
-        private boolean isWord(String word) {
-            int letters = word.length();
-            if (letters != at - place || place < 0 || place + letters > TAPE) {
-                return false;
-            }
-            for (int i = 0; i < letters; i++) {
-                if (word.charAt(i) != tape[place + i]) {
-                    return false;
-                }
-            }
-            return true;
-        }
-
-        private static String wordOf(int k) {
-            switch (k) {
-                case QUICK_NAME: return "quick";
-                case ROOM_NAME: return "room";
-                case DAY_NAME: return "day";
-                case LOAD_NAME: return "load";
-                case SHIP_NAME: return "ship";
-                case WORLD_NAME: return "world";
-                case CATCH_KEY: return "catch";
-                case DROP_KEY: return "drop";
-                case CHANGE_KEY: return "change";
-                case OR_KEY: return "or";
-                case AND_KEY: return "and";
-                default: return "not";
-            }
         }
     }
 
