@@ -374,6 +374,14 @@ public final class PromiseTest {
         due(14, "seldom(1, 0)", x.seldom(1, 0), 45);
         due(14, "seldom(1, 1)", x.seldom(1, 1), 2);
         due(13, "meets(4, 5, 1, 7)", x.meets(4, 5, 1, 7), 14);
+        // on 4 and 5: the very next day
+        NeverStop y = new NeverStop();
+        y.world(1, 1);
+        for (int s = 0; s < 2; s++) {
+            y.ship(3, 5, 1, 1);
+            y.loop(s, 0, 4, 0);
+        }
+        due(14, "seldom of the very next day", y.seldom(0, 1), 1);
         // 59 and 60 days: all rounds of both have to be gone through
         x.ship(0, 59, 0, 1);
         x.loop(6, 1, 58, 0);
@@ -484,6 +492,16 @@ public final class PromiseTest {
         }
         due(18, "a full tape", feedAll(x, full.toString()), 160);
         due(18, "text()", x.text(), 2);
+        // a word, a number that end with the tape: what is missing is missing behind them
+        StringBuilder word = new StringBuilder("catch 7;drop 8;");
+        while (word.length() < 154) {
+            word.append(' ');
+        }
+        due(19, "a word at the end of a full tape", textOf(x, word + "change"), -260);
+        word.setLength(153);
+        due(19, "a number at the end of a full tape", textOf(x, word + "change9"), -260);
+        word.setLength(152);
+        due(19, "a sign at the end of a full tape", textOf(x, word + "change9;"), 3);
     }
 
     private static void texts() {
@@ -528,6 +546,12 @@ public final class PromiseTest {
         faultAt(7, "catch 1quick;");
         faultAt(6, "catch quicky;");
         faultAt(6, "catch quic;");
+        faultAt(6, "catch xuick;");
+        faultAt(6, "catch quickz;");
+        faultAt(6, "catch zday;");
+        faultAt(11, "catch quick{;");
+        faultAt(6, "catch `;");
+        faultAt(6, "catch :1;");
         faultAt(6, "catch Quick;");
         faultAt(0, "catchquick;");
         faultAt(0, "catches 1;");
@@ -926,6 +950,12 @@ public final class PromiseTest {
         due(29, "a change at the least world", x.toldFuel(0, 3, 0, 1, 0), 48);
         due(24, "a change at any world", x.least(0, 3, 0, 1, 3), 38);
         due(22, "soon by a change", x.soon(0, 3, 0, 1), 2);
+        // both pass world 0 on day 10, too: it is the least one then
+        x.loop(1, 0, 0, 0);
+        x.loop(0, 1, 0, 0);
+        x.loop(1, 1, 0, 0);
+        row(x, 1, 2, 0, 0, 0, 10, 2, 1, 12, 1, 3);
+        due(29, "a change at world 0", x.toldFuel(0, 3, 0, 1, 1), 58);
         due(22, "soon by no change", x.soon(0, 3, 0, 8), -1);
     }
 
