@@ -1014,7 +1014,7 @@ public final class OracleTest {
                 for (int i = 0; i < row.length; i++) all[i] = row[i];
                 return all;
             }
-            return (int[]) sheets[s];
+            return ((int[]) sheets[s]).clone();
         }
 
         int fuelOfWay;
