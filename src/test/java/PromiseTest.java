@@ -27,6 +27,7 @@ public final class PromiseTest {
         feeding();
         texts();
         faults();
+        shorterTexts();
         opens();
         forcing();
         fuels();
@@ -536,6 +537,9 @@ public final class PromiseTest {
         faultAt(21, "catch 1;drop 1;change");
         faultAt(24, "catch 1;drop 1;change 1;;");
         faultAt(25, "catch 1;drop 1;change 1; 1");
+        faultAt(24, "catch 1;drop 1;change 1;x");
+        faultAt(24, "catch 1;drop 1;change 1;?");
+        faultAt(24, "catch 1;drop 1;change 1;12345");
         faultAt(0, "drop 1;");
         faultAt(0, "1");
         faultAt(8, "catch 1;change 1;");
@@ -581,6 +585,17 @@ public final class PromiseTest {
         faultAt(11, "catch 1 or or 1;");
         faultAt(8, "catch 1 not 1;");
         faultAt(8, "catch 1<=2;");
+    }
+
+    /** What an earlier, longer text left behind a shorter one's end is none of its bytes. */
+    private static void shorterTexts() {
+        NeverStop x = new NeverStop();
+        due(19, "a longer word", textOf(x, "catch quickz;"), -106);
+        due(19, "a shorter word, at the end", textOf(x, "catch quick"), -111);
+        due(19, "a longer number", textOf(x, "catch 12345;"), -106);
+        due(19, "a shorter number, at the end", textOf(x, "catch 1234"), -110);
+        due(19, "a whole text", textOf(x, "catch 1;drop 1;change 1;"), 1);
+        due(19, "its beginning", textOf(x, "catch 1;drop 1;change 1"), -123);
     }
 
     private static void opens() {
@@ -1020,6 +1035,9 @@ public final class PromiseTest {
         due(31, "lacks with no such day", x.lacks(0), -2);
         row(x, 0, 2);
         due(31, "lacks of none", x.lacks(0), -1);
+        NeverStop empty = new NeverStop();
+        row(empty, 0, 1);
+        due(31, "lacks of none, without worlds", empty.lacks(0), -1);
     }
 
     private static void trips() {
