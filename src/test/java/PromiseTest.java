@@ -1,14 +1,7 @@
 /** For each promise of the document answers worked out by hand: ordinary ones, its edges, its refusals. */
-public final class PromiseTest {
-    private static int wrong = 0;
-    private static int asked = 0;
-
+public final class PromiseTest extends Asks {
     private static void due(int promise, String call, long got, long want) {
-        asked++;
-        if (got != want) {
-            wrong++;
-            System.out.println("promise " + promise + ": " + call + " answered " + got + ", due is " + want);
-        }
+        due("promise " + promise + ": " + call, got, want);
     }
 
     public static void main(String[] args) {
@@ -55,35 +48,7 @@ public final class PromiseTest {
         copies();
         tripsBySheet();
         taken();
-        System.out.println(asked + " answers asked, " + wrong + " wrong");
-        if (wrong != 0) {
-            System.exit(1);
-        }
-    }
-
-    private static int feedAll(NeverStop x, String text) {
-        int size = x.count(5);
-        for (int at = 0; at < text.length(); at += 8) {
-            int n = Math.min(8, text.length() - at);
-            long w = 0;
-            for (int i = 0; i < n; i++) {
-                w = w << 8 | text.charAt(at + i);
-            }
-            size = x.feed(w, n);
-        }
-        return size;
-    }
-
-    private static int textOf(NeverStop x, String text) {
-        feedAll(x, text);
-        return x.text();
-    }
-
-    private static void row(NeverStop x, int s, int sort, int... values) {
-        x.sheet(s, sort, values.length);
-        for (int i = 0; i < values.length; i++) {
-            x.cell(s, i, values[i]);
-        }
+        end();
     }
 
     private static void newObject() {
