@@ -335,11 +335,17 @@ public final class SentenceTest extends Sentences {
         plain(x, 2, 9, 1);
         due("one passes on even days, one on odd ones", x.meets(4, 6, 0, 0), -1);
         due("both on odd days", x.meets(5, 6, 0, 2), 11);
+        // on 2, 5, 8, .. and on 2, 5, 12, 15, ..: on 2 and 5 both, then not before 32
+        plain(x, 3, 9, 2);
+        ship(x, 3, 5, 3, 9, 2);
+        due("twice in a row", x.meets(7, 8, 0, 3), 5);
+        due("not for a long time then", x.meets(7, 8, 0, 6), 32);
+        due("whichever is the first", x.meets(8, 7, 0, 6), 32);
         within("day", v -> x.meets(0, 1, 0, v), 0, 20000, -7);
-        within("one", v -> v == 1 ? x.meets(1, 0, 0, 0) : v == 6 ? x.meets(6, 0, 0, 0) : x.meets(v, 1, 0, 0), 0, 6, -5);
-        within("other", v -> x.meets(v == 1 ? 0 : 1, v, 0, 0), 0, 6, -5);
+        within("one", v -> x.meets(v, v == 1 ? 0 : 1, 0, 0), 0, 8, -5);
+        within("other", v -> x.meets(v == 1 ? 0 : 1, v, 0, 0), 0, 8, -5);
         within("world", v -> x.meets(0, 1, v, 0), 0, 1, -5);
-        for (int s = 0; s <= 6; s++) {
+        for (int s = 0; s <= 8; s++) {
             due("alike: " + s, x.meets(s, s, 0, 0), -5);
         }
         due("alike, no day", x.meets(0, 0, 0, -1), -5);
@@ -552,6 +558,10 @@ public final class SentenceTest extends Sentences {
             textOf(y, good);
         }
         due("FULL with nothing on THE TAPE", y.text(), -4);
+        NeverStop z = new NeverStop();
+        due("as many TOKENS as bytes", textOf(z, "(".repeat(160)), -100);
+        due("as many NUMBERS as can be", textOf(z, "catch 1" + "+1".repeat(68) + ";drop 1;change 1;"), 1);
+        due("as many ( as bytes behind catch", textOf(z, "catch" + "(".repeat(155)), -110);
     }
 
     private static void force() {
@@ -665,6 +675,9 @@ public final class SentenceTest extends Sentences {
         within("days", v -> x.least(0, 1, 0, 1, v), 0, 200, -7);
         due("no world, no days", x.least(0, 3, 0, 1, 201), -5);
         due("no days, to itself", x.least(0, 0, 0, 1, 201), -7);
+        due("another world first", x.least(1, 0, 58, 1, 2), 198);
+        due("back from there", x.least(2, 0, 0, 1, 200), 396);
+        due("the first again", x.least(1, 0, 58, 1, 1), -1);
         // a chain of one-day acts, each of 99: caught, let off, by turns
         NeverStop y = toAndFro(1);
         lawOf(y, "catch 99;drop 99;change 99;");
@@ -711,6 +724,7 @@ public final class SentenceTest extends Sentences {
         plain(x, 10, 9, 0, 5);
         due("one ship", x.bears(0, 1, 0, 1), -1);
         due("one ship, to itself", x.bears(0, 0, 9, 1), 9);
+        due("one ship, to itself, on day 0", x.bears(0, 0, 0, 1), 0);
         plain(x, 10, 9, 0, 7);
         due("two ships", x.bears(0, 1, 0, 1), 7);
         plain(x, 10, 9, 0, 6);
@@ -974,6 +988,9 @@ public final class SentenceTest extends Sentences {
         due("all, more than its ROOM", x.aboard(0, 4, 1023), 945);
         due("let off", x.aboard(0, 5, 1023), 0);
         due("aboard the other", x.aboard(1, 4, 1023), 0);
+        x.loop(0, 0, -1, 0);
+        due("aboard the other now", x.aboard(1, 5, 1023), 945);
+        due("not aboard the first any more", x.aboard(0, 5, 1023), 0);
         within("TRIPS", v -> x.aboard(0, 0, v), 0, 1023, -7);
         within("day", v -> x.aboard(0, v, 0), 0, 20000, -7);
         within("ship", v -> x.aboard(v, 0, 0), 0, 1, -5);
@@ -1030,6 +1047,12 @@ public final class SentenceTest extends Sentences {
         NeverStop x = worlds(2);
         due("no TRIPS", x.most(0), 0);
         due("no TRIPS: people", x.most(1), 0);
+        NeverStop one = worlds(2);
+        plain(one, 10, 1, 0, 5);
+        one.trip(0, 1, 0, 1);
+        one.trip(0, 1, 0, 1);
+        due("one person", one.most(0), 1);
+        due("one person: people", one.most(1), 1);
         x.trip(0, 1, 0, 3);
         due("no RIDE", x.most(0), 0);
         due("no RIDE: people", x.most(1), 0);
@@ -1088,6 +1111,12 @@ public final class SentenceTest extends Sentences {
         x.loop(3, 2, 3, 0);
         due("both worlds on a day", x.together(0, 2, 0, 99, 0), 3);
         due("from the last day on", x.together(0, 1, 20000, 4, 0), 20005);
+        for (int s = 4; s < 8; s++) {
+            plain(x, 10, 99, 2);
+        }
+        plain(x, 10, 99, 2, 2);
+        due("the ninth", x.together(0, 1, 0, 99, 1), 8);
+        due("the day of the ninth", x.together(0, 1, 0, 99, 0), 2);
         within("a", v -> x.together(v, v == 1 ? 0 : 1, 0, 1, 0), 0, 2, -5);
         within("b", v -> x.together(v == 0 ? 1 : 0, v, 0, 1, 0), 0, 2, -5);
         within("day", v -> x.together(0, 1, v, 1, 0), 0, 20000, -5);

@@ -713,6 +713,10 @@ public final class TermsTest extends Sentences {
         due("not is open behind its *", readOf("not not not not not 1*-1"), -128);
         NeverStop x = new NeverStop();
         due("parts are on their own", textOf(x, "catch (((((1)))));drop -----1;change (((((1)))));"), 1);
+        // each of five ( with five numbers that wait for what is in it
+        String deep = "0 or 1 and 1<1+1*(".repeat(5) + "0 or 1 and 1<1+1*7" + ")))))";
+        due("as deep as can be", fuelOf(deep), 1);
+        due("as deep as can be, to its last number", fuelOf("(1+(1+(1+(1+(1+2*3)))))"), 11);
         due("nothing stays open from a fault", textOf(x, "catch (((((("), -111);
         due("the next TEXT", textOf(x, "catch (((((1)))))" + REST), 2);
     }
@@ -954,6 +958,8 @@ public final class TermsTest extends Sentences {
         due("at a world on a day", x.judge(0, 3, 0, 1, 0), -1);
         row(x, 0, 2, 0, 0, 0, 5, 2, 0, 5, 1, 1);
         due("to itself", x.judge(0, 1, 0, 1, 0), 1);
+        row(x, 0, 2, 5, 0, 1, 15, 2, 1, 17, 1, 3);
+        due("another one to itself", x.judge(1, 3, 0, 1, 0), 1);
         row(x, 0, 2, 5, 2, 1, 7, 1, 3);
         due("at a world", x.judge(1, 3, 5, 1, 0), 0);
         // at the world where one was caught, on the next round
