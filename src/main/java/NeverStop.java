@@ -280,7 +280,7 @@ public final class NeverStop {
         if (!isDay(d) || !isMany(n)) {
             return NOT_SO;
         }
-        ways.take(fleet, laws[law], n);
+        ways.take(fleet, lawNow(), n);
         return ways.price(part, s, w, d);
     }
 
@@ -290,7 +290,7 @@ public final class NeverStop {
         if (!isStart(a, d, n) || worldAt(b) == null) {
             return NO_SUCH;
         }
-        ways.take(fleet, laws[law], n);
+        ways.take(fleet, lawNow(), n);
         ways.findDays(a, b, d, SHIPS);
         return ways.found[SHIPS];
     }
@@ -302,7 +302,7 @@ public final class NeverStop {
         if (!isSpan(days)) {
             return NOT_SO;
         }
-        ways.take(fleet, laws[law], n);
+        ways.take(fleet, lawNow(), n);
         return ways.worldsWithin(a, d, days);
     }
 
@@ -313,7 +313,7 @@ public final class NeverStop {
         if (!isSpan(days)) {
             return NOT_SO;
         }
-        ways.take(fleet, laws[law], n);
+        ways.take(fleet, lawNow(), n);
         return ways.cheapest(a, b, d, days);
     }
 
@@ -324,7 +324,7 @@ public final class NeverStop {
         if (what < -1) {
             return NOT_SO;
         }
-        ways.take(fleet, laws[law], n);
+        ways.take(fleet, lawNow(), n);
         return ways.onEdge(a, b, d, what);
     }
 
@@ -332,7 +332,7 @@ public final class NeverStop {
         if (!isStart(a, d, n) || worldAt(b) == null) {
             return NO_SUCH;
         }
-        ways.take(fleet, laws[law], n);
+        ways.take(fleet, lawNow(), n);
         ways.findDays(a, b, d, 0);
         int last = ways.found[SHIPS];
         for (int s = 0; s < fleet.size; s++) {
@@ -348,7 +348,7 @@ public final class NeverStop {
         if (!isStart(a, d, n) || worldAt(b) == null) {
             return NO_SUCH;
         }
-        ways.take(fleet, laws[law], n);
+        ways.take(fleet, lawNow(), n);
         ways.findDays(a, b, d, 0);
         int bits = 0;
         for (int s = 0; s < fleet.size; s++) {
@@ -470,7 +470,7 @@ public final class NeverStop {
         int best = NONE;
         int bestDay = NONE;
         for (int s = 0; s < fleet.size; s++) {
-            Ship one = fleet.ships[s];
+            Ship one = fleet.shipAt(s);
             if (one != null && one.room >= n && one.goesBy(a) && one.goesBy(b)) {
                 int day = one.firstFrom(a, d);
                 if (best < 0 || day < bestDay) {
@@ -512,11 +512,11 @@ public final class NeverStop {
         kept.trips = trips.size;
         kept.law = law;
         for (int s = 0; s < fleet.size; s++) {
-            Ship one = fleet.ships[s];
+            Ship one = fleet.shipAt(s);
             kept.turned[s] = one == null ? 0 : one.turned;
         }
         for (int w = 0; w < worldCount; w++) {
-            World at = worlds[w];
+            World at = worldAt(w);
             kept.boats[w] = at == null ? 0 : at.boats;
             kept.ready[w] = at == null ? 1 : at.ready;
         }
@@ -530,13 +530,13 @@ public final class NeverStop {
         trips.size = kept.trips;
         law = kept.law;
         for (int s = 0; s < kept.ships; s++) {
-            Ship one = fleet.ships[s];
+            Ship one = fleet.shipAt(s);
             if (one != null) {
                 one.turned = kept.turned[s];
             }
         }
         for (int w = 0; w < kept.worlds; w++) {
-            World at = worlds[w];
+            World at = worldAt(w);
             if (at != null) {
                 at.boats = kept.boats[w];
                 at.ready = kept.ready[w];
@@ -672,6 +672,10 @@ public final class NeverStop {
         return worldAt(a) != null && isDay(d) && isMany(n);
     }
 
+    private Law lawNow() {
+        return law >= 0 && law < lawCount && law < TEXTS ? laws[law] : null;
+    }
+
     private World worldAt(int w) {
         return w >= 0 && w < worldCount && w < WORLDS ? worlds[w] : null;
     }
@@ -717,7 +721,7 @@ public final class NeverStop {
     private int walked(int a, int b, int d, int n, int s) {
         Sheet acts = sheets[s];
         int steps = acts.size / 3;
-        ways.take(fleet, laws[law], n);
+        ways.take(fleet, lawNow(), n);
         ways.setOut(a);
         int from = d;
         for (int i = 0; i < steps; i++) {

@@ -3,7 +3,9 @@ import java.nio.charset.StandardCharsets;
 import java.nio.file.Files;
 import java.nio.file.Path;
 import java.util.ArrayList;
+import java.util.LinkedHashSet;
 import java.util.List;
+import java.util.Set;
 import java.util.function.IntToLongFunction;
 
 /**
@@ -47,20 +49,25 @@ abstract class Sentences extends Asks {
         askedAhead = asked;
     }
 
-    /** The last line of a test that has to have a test for each sentence of these sections. */
+    /** The last line of a test; each sentence of these sections has to have a test by it. */
     static void end(String... whole) throws IOException {
         closeSentence();
         must(Files.exists(DOCUMENT), "run from the project's folder, with " + DOCUMENT);
         if (Files.exists(DOCUMENT)) {
             String document = Files.readString(DOCUMENT, StandardCharsets.UTF_8);
-            for (String section : whole) {
-                holdAgainst(section, sectionOf(document, section));
+            Set<String> all = new LinkedHashSet<>(sections);
+            all.addAll(List.of(whole));
+            for (String section : all) {
+                String left = untold(section, sectionOf(document, section));
+                boolean nothing = left.chars().noneMatch(Character::isLetterOrDigit);
+                must(nothing || !List.of(whole).contains(section), "no test by these words of " + section + ": " + left);
             }
         }
         end();
     }
 
-    private static void holdAgainst(String section, String text) {
+    /** What is left of a section's text without the sentences that were told. */
+    private static String untold(String section, String text) {
         boolean[] told = new boolean[text.length()];
         for (int i = 0; i < sentences.size(); i++) {
             if (sections.get(i).equals(section)) {
@@ -71,8 +78,7 @@ abstract class Sentences extends Asks {
         for (int i = 0; i < text.length(); i++) {
             left.append(told[i] ? ' ' : text.charAt(i));
         }
-        boolean nothing = left.chars().noneMatch(Character::isLetterOrDigit);
-        must(nothing, "no test by these words of " + section + ": " + left.toString().replaceAll("\\s+", " ").trim());
+        return left.toString().replaceAll("\\s+", " ").trim();
     }
 
     /** Marks the first place at which the words stand and which isn't marked yet. */
