@@ -46,6 +46,7 @@ public final class RulesTest {
             String source = Files.readString(file, StandardCharsets.ISO_8859_1);
             words(bare(source));
             methods(bare(source));
+            library(bare(source));
         }
         extremes();
         littleIsMade();
@@ -142,6 +143,23 @@ public final class RulesTest {
             if (source.charAt(i) > 126) {
                 must(false, "a sign above 126");
             }
+        }
+    }
+
+    /** No class but its own and String, Math, System; of Math and System only what LANGUAGE.md lists. */
+    private static void library(String source) {
+        Set<String> known = new HashSet<>(Arrays.asList("NeverStop", "String", "Math", "System"));
+        for (Class<?> c : NeverStop.class.getDeclaredClasses()) {
+            known.add(c.getSimpleName());
+        }
+        Matcher m = Pattern.compile("\\b[A-Z]\\w*[a-z]\\w*").matcher(source);
+        while (m.find()) {
+            must(known.contains(m.group()), m.group() + " is none of its classes");
+        }
+        Matcher used = Pattern.compile("\\b(Math|System)\\.(\\w+)").matcher(source);
+        Set<String> listed = new HashSet<>(Arrays.asList("max", "min", "abs", "floorMod", "floorDiv", "arraycopy"));
+        while (used.find()) {
+            must(listed.contains(used.group(2)), used.group() + " is listed");
         }
     }
 
